@@ -162,7 +162,7 @@ public final class TwoTownAlmanac {
     public int dayDue(int feast, int year) throws IndexOutOfBoundsException, IllegalArgumentException {
         Feast chosen = requireFeast(feast);
         requireRange(year, 1, MOST_YEAR);
-        return state.dueIn(chosen, year);
+        return state.townWith(chosen.town).dueIn(chosen, year);
     }
 
     public int dayKept(int feast, int year) throws IndexOutOfBoundsException, IllegalArgumentException {
@@ -551,11 +551,11 @@ public final class TwoTownAlmanac {
             return dateOn(day) == date ? day : NONE;
         }
 
-        /** The first day of a year that has the date or a later one, NONE if there is none. */
-        int firstDayInYear(int year, int month, int dayOfMonth) {
+        int dueIn(Feast feast, int year) {
             // The day behind the last one of a month is the first one of the next month.
-            int behindMonth = daysInMonth(month) + 1;
-            int day = firstDayFrom(dateOf(year, month, dayOfMonth < behindMonth ? dayOfMonth : behindMonth));
+            int behindMonth = daysInMonth(feast.month) + 1;
+            int dayOfMonth = feast.dayOfMonth < behindMonth ? feast.dayOfMonth : behindMonth;
+            int day = firstDayFrom(dateOf(year, feast.month, dayOfMonth));
             return yearOn(day) == year ? day : NONE;
         }
     }
@@ -623,12 +623,8 @@ public final class TwoTownAlmanac {
             return number;
         }
 
-        int dueIn(Feast feast, int year) {
-            return townWith(feast.town).firstDayInYear(year, feast.month, feast.dayOfMonth);
-        }
-
         int keptIn(Feast feast, int year) {
-            int due = dueIn(feast, year);
+            int due = townWith(feast.town).dueIn(feast, year);
             if (due == NONE || due % WEEK != feast.barred) {
                 return due;
             }
@@ -671,17 +667,12 @@ public final class TwoTownAlmanac {
                 sets[i] = 0;
             }
             for (int k = 0; k < feastsAdded; k++) {
-                markFeast(k, sets, from, days);
-            }
-        }
-
-        private void markFeast(int number, int[] sets, int from, int days) {
-            Feast feast = feasts[number];
-            int lastYear = townWith(feast.town).yearOn(from + days - 1);
-            for (int year = firstYearFor(feast, from); year <= lastYear; year++) {
-                int place = keptIn(feast, year) - from;
-                if (place >= 0 && place < days && place < sets.length) {
-                    sets[place] |= 1 << number;
+                int lastYear = townWith(feasts[k].town).yearOn(from + days - 1);
+                for (int year = firstYearFor(feasts[k], from); year <= lastYear; year++) {
+                    int place = keptIn(feasts[k], year) - from;
+                    if (place >= 0 && place < days && place < sets.length) {
+                        sets[place] |= 1 << k;
+                    }
                 }
             }
         }
@@ -739,12 +730,10 @@ public final class TwoTownAlmanac {
             }
         }
 
+        // Two digits are enough: no day that can be written has a year above 60.
         void putNumber(int number) {
-            if (number >= 100) {
-                put('0' + number / 100 % 10);
-            }
             if (number >= 10) {
-                put('0' + number / 10 % 10);
+                put('0' + number / 10);
             }
             put('0' + number % 10);
         }

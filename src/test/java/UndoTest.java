@@ -13,6 +13,7 @@ public final class UndoTest {
         otherCallsAreNotRecorded();
         sixStatesAreKept();
         statesAreSaved();
+        gapsComeBack();
         slotsAreNoPartOfHistory();
         refusedChangesAreNotRecorded();
         wrongInputs();
@@ -152,6 +153,28 @@ public final class UndoTest {
         Check.due(45, "saveState(0) over another", x.saveState(0), 300);
         x.loadState(0);
         Check.same(45, "the state that replaced", Check.stateOf(x), second);
+    }
+
+    private static void gapsComeBack() {
+        TwoTownAlmanac x = new TwoTownAlmanac();
+        x.addGap(0, 10, 1);
+        x.addGap(0, 20, 2);
+        x.addGap(0, 30, 3);
+        String three = Check.stateOf(x);
+        x.saveState(0);
+        for (int i = 0; i < 3; i++) {
+            x.undo();
+        }
+        x.addGap(0, 15, 4);
+        x.addGap(0, 25, 5);
+        x.addGap(0, 35, 6);
+        String others = Check.stateOf(x);
+        x.loadState(0);
+        Check.same(46, "the gaps of slot 0", Check.stateOf(x), three);
+        Check.due(46, "dayOfMonth(0, 21)", x.dayOfMonth(0, 21), 25);
+        x.undo();
+        Check.same(43, "the gaps before loadState", Check.stateOf(x), others);
+        Check.due(43, "dayOfMonth(0, 21)", x.dayOfMonth(0, 21), 26);
     }
 
     private static void slotsAreNoPartOfHistory() {

@@ -1,17 +1,7 @@
-import java.util.function.Supplier;
-
-/** Promises 12 to 22: feasts, the days on which they are due and kept, quarrels. */
+/** Promises 12 to 22: feasts, when they are due and kept, by examples; FeastEdgesTest has the boundaries. */
 public final class FeastTest {
-    private static final Class<IndexOutOfBoundsException> INDEX = IndexOutOfBoundsException.class;
-    private static final Class<IllegalArgumentException> ARGUMENT = IllegalArgumentException.class;
-    private static final Class<IllegalStateException> STATE = IllegalStateException.class;
-    private static final int[] NO_FEASTS = {-1, 2, 9, 10, 31, 32, Integer.MIN_VALUE, Integer.MAX_VALUE};
-    private static final int[] NO_DAYS = {-1, 20001, Integer.MIN_VALUE, Integer.MAX_VALUE};
-    private static final int[] NO_YEARS = {0, -1, 61, Integer.MIN_VALUE, Integer.MAX_VALUE};
-
     public static void main(String[] args) {
         feastsAreAdded();
-        feastsAreRefused();
         weekdaysAreBarred();
         feastsAreDue();
         feastsOfLeftOutDatesAreDueLater();
@@ -19,7 +9,6 @@ public final class FeastTest {
         feastsMayBeKeptInTheNextYear();
         feastsAreOnDays();
         townsQuarrel();
-        wrongFeastsYearsAndDays();
         Check.end("FeastTest");
     }
 
@@ -29,14 +18,6 @@ public final class FeastTest {
         x.addFeast(0, 1, 1);
         x.addFeast(1, 1, 4);
         x.barWeekday(1, 3);
-        return x;
-    }
-
-    private static TwoTownAlmanac full() {
-        TwoTownAlmanac x = new TwoTownAlmanac();
-        for (int i = 0; i < 10; i++) {
-            x.addFeast(i % 2, i + 1, i + 1);
-        }
         return x;
     }
 
@@ -64,26 +45,6 @@ public final class FeastTest {
         Check.due(17, "barredWeekday(0)", again.barredWeekday(0), -1);
     }
 
-    private static void refusedFeast(Class<? extends RuntimeException> due, Supplier<TwoTownAlmanac> made,
-            int town, int month, int dayOfMonth) {
-        Check.refused(12, "addFeast(" + town + ", " + month + ", " + dayOfMonth + ")", due, made,
-                x -> x.addFeast(town, month, dayOfMonth));
-    }
-
-    private static void feastsAreRefused() {
-        for (int number : new int[] {0, -1, Integer.MIN_VALUE, Integer.MAX_VALUE}) {
-            refusedFeast(ARGUMENT, FeastTest::withTwo, 0, number, 1);
-            refusedFeast(ARGUMENT, FeastTest::withTwo, 0, 1, number);
-        }
-        refusedFeast(ARGUMENT, FeastTest::withTwo, 0, 13, 1);
-        refusedFeast(ARGUMENT, FeastTest::withTwo, 1, 1, 32);
-        refusedFeast(INDEX, FeastTest::withTwo, -1, 1, 1);
-        refusedFeast(INDEX, FeastTest::withTwo, 2, 13, 32);
-        refusedFeast(STATE, FeastTest::full, 0, 1, 1);
-        refusedFeast(ARGUMENT, FeastTest::full, 0, 13, 1);
-        refusedFeast(INDEX, FeastTest::full, 2, 1, 1);
-    }
-
     private static void weekdaysAreBarred() {
         TwoTownAlmanac x = withTwo();
         Check.due(13, "barWeekday(0, 0)", x.barWeekday(0, 0), -1);
@@ -96,13 +57,6 @@ public final class FeastTest {
         Check.due(17, "barredWeekday(0)", x.barredWeekday(0), -1);
         Check.due(13, "barWeekday(0, 2)", x.barWeekday(0, 2), -1);
         Check.due(14, "allowAllWeekdays(1)", x.allowAllWeekdays(1), 3);
-        for (int weekday : new int[] {-1, 7, Integer.MIN_VALUE, Integer.MAX_VALUE}) {
-            Check.refused(13, "barWeekday(1, " + weekday + ")", ARGUMENT, FeastTest::withTwo,
-                    y -> y.barWeekday(1, weekday));
-        }
-        Check.refused(13, "barWeekday(2, 7)", INDEX, FeastTest::withTwo, y -> y.barWeekday(2, 7));
-        Check.refused(14, "allowAllWeekdays(0)", STATE, FeastTest::withTwo, y -> y.allowAllWeekdays(0));
-        Check.refused(14, "allowAllWeekdays(2)", INDEX, FeastTest::withTwo, y -> y.allowAllWeekdays(2));
     }
 
     private static void due(int town, int month, int dayOfMonth, int... daysOfYears) {
@@ -245,32 +199,5 @@ public final class FeastTest {
         Check.due(22, "isQuarrel(20000) with one feast", x.isQuarrel(20000), false);
         x.addFeast(1, 7, 9);
         Check.due(22, "isQuarrel(20000)", x.isQuarrel(20000), true);
-    }
-
-    private static void wrongFeastsYearsAndDays() {
-        Supplier<TwoTownAlmanac> two = FeastTest::withTwo;
-        for (int feast : NO_FEASTS) {
-            String of = "(" + feast + ")";
-            Check.refused(13, "barWeekday" + of, INDEX, two, x -> x.barWeekday(feast, 0));
-            Check.refused(14, "allowAllWeekdays" + of, INDEX, two, x -> x.allowAllWeekdays(feast));
-            Check.refused(16, "feastTown" + of, INDEX, two, x -> x.feastTown(feast));
-            Check.refused(17, "barredWeekday" + of, INDEX, two, x -> x.barredWeekday(feast));
-            Check.refused(18, "dayDue" + of, INDEX, two, x -> x.dayDue(feast, 1));
-            Check.refused(18, "dayDue" + of + " in no year", INDEX, two, x -> x.dayDue(feast, 61));
-            Check.refused(19, "dayKept" + of, INDEX, two, x -> x.dayKept(feast, 1));
-            Check.refused(19, "dayKept" + of + " in no year", INDEX, two, x -> x.dayKept(feast, 0));
-            Check.refused(20, "isKept" + of, INDEX, two, x -> x.isKept(feast, 0));
-            Check.refused(20, "isKept" + of + " on no day", INDEX, two, x -> x.isKept(feast, -1));
-        }
-        Check.refused(16, "feastTown(0) without feasts", INDEX, TwoTownAlmanac::new, x -> x.feastTown(0));
-        for (int year : NO_YEARS) {
-            Check.refused(18, "dayDue(1, " + year + ")", ARGUMENT, two, x -> x.dayDue(1, year));
-            Check.refused(19, "dayKept(1, " + year + ")", ARGUMENT, two, x -> x.dayKept(1, year));
-        }
-        for (int day : NO_DAYS) {
-            Check.refused(20, "isKept(1, " + day + ")", ARGUMENT, two, x -> x.isKept(1, day));
-            Check.refused(21, "feastsOn(" + day + ")", ARGUMENT, two, x -> x.feastsOn(day));
-            Check.refused(22, "isQuarrel(" + day + ")", ARGUMENT, two, x -> x.isQuarrel(day));
-        }
     }
 }

@@ -1,11 +1,5 @@
-import java.util.function.Supplier;
-
-/** Promises 23 to 31: the shift, the monks, passing days. */
+/** Promises 23 to 31: the shift, the monks, passing days, by examples; PassingEdgesTest has the boundaries. */
 public final class PassingTest {
-    private static final Class<IndexOutOfBoundsException> INDEX = IndexOutOfBoundsException.class;
-    private static final Class<IllegalArgumentException> ARGUMENT = IllegalArgumentException.class;
-    private static final Class<IllegalStateException> STATE = IllegalStateException.class;
-
     public static void main(String[] args) {
         shiftIsSet();
         copiesAreSet();
@@ -13,20 +7,7 @@ public final class PassingTest {
         todayIsTheFirstToPass();
         movedFeastsAreCounted();
         countsStay();
-        todayHasAnEnd();
-        wrongInputs();
         Check.end("PassingTest");
-    }
-
-    private static TwoTownAlmanac onDay(int day) {
-        TwoTownAlmanac x = new TwoTownAlmanac();
-        while (x.today() + 400 <= day) {
-            x.passDays(400);
-        }
-        if (x.today() < day) {
-            x.passDays(day - x.today());
-        }
-        return x;
     }
 
     private static void shiftIsSet() {
@@ -119,34 +100,5 @@ public final class PassingTest {
         // moved to day 1, the feast is kept in this year once more
         x.passDays(1);
         Check.due(29, "feastsKept(0)", x.feastsKept(0), 2);
-    }
-
-    private static void todayHasAnEnd() {
-        TwoTownAlmanac x = onDay(9998);
-        Check.due(27, "passDays(1)", x.passDays(1), 0);
-        Check.due(28, "today()", x.today(), 9999);
-        Check.due(31, "copiesMade()", x.copiesMade(), 2 * 9999);
-        Check.refused(27, "passDays(1) on day 9999", STATE, () -> onDay(9999), y -> y.passDays(1));
-        Check.refused(27, "passDays(2) on day 9998", STATE, () -> onDay(9998), y -> y.passDays(2));
-        Check.refused(27, "passDays(400) on day 9600", STATE, () -> onDay(9600), y -> y.passDays(400));
-        Check.refused(27, "passDays(0) on day 9999", ARGUMENT, () -> onDay(9999), y -> y.passDays(0));
-        Check.refused(27, "passDays(401) on day 9999", ARGUMENT, () -> onDay(9999), y -> y.passDays(401));
-        Check.due(27, "passDays(399) on day 9600", onDay(9600).passDays(399), 0);
-    }
-
-    private static void wrongInputs() {
-        Supplier<TwoTownAlmanac> made = () -> onDay(5);
-        for (int number : new int[] {0, -1, 10, Integer.MIN_VALUE, Integer.MAX_VALUE}) {
-            Check.refused(23, "setShift(" + number + ")", ARGUMENT, made, x -> x.setShift(number));
-        }
-        for (int number : new int[] {-1, 10, Integer.MIN_VALUE, Integer.MAX_VALUE}) {
-            Check.refused(25, "setCopiesPerDay(" + number + ")", ARGUMENT, made, x -> x.setCopiesPerDay(number));
-        }
-        for (int number : new int[] {0, -1, 401, Integer.MIN_VALUE, Integer.MAX_VALUE}) {
-            Check.refused(27, "passDays(" + number + ")", ARGUMENT, made, x -> x.passDays(number));
-        }
-        for (int town : new int[] {-1, 2, Integer.MIN_VALUE, Integer.MAX_VALUE}) {
-            Check.refused(29, "feastsKept(" + town + ")", INDEX, made, x -> x.feastsKept(town));
-        }
     }
 }

@@ -1,50 +1,23 @@
-import java.util.function.Supplier;
-
-/** Promises 36 to 42: the text. */
+/** Promises 36 to 42: the text, by examples; TextEdgesTest has the boundaries. */
 public final class TextTest {
-    private static final Class<IndexOutOfBoundsException> INDEX = IndexOutOfBoundsException.class;
-    private static final Class<IllegalArgumentException> ARGUMENT = IllegalArgumentException.class;
     private static final Class<IllegalStateException> STATE = IllegalStateException.class;
 
     public static void main(String[] args) {
         charactersAreAppended();
-        numbersAreRefused();
-        textHasAnEnd();
         textIsCleared();
         errorsAreFound();
         datesAreRead();
         datesOfGapsAreRead();
         datesAreWritten();
         textIsNoPartOfHistory();
-        wrongInputs();
         Check.end("TextTest");
-    }
-
-    private static long packed(String characters) {
-        long number = 0;
-        for (int i = 0; i < characters.length(); i++) {
-            number = number << 8 | characters.charAt(i);
-        }
-        return number;
-    }
-
-    private static TwoTownAlmanac with(String text) {
-        TwoTownAlmanac x = new TwoTownAlmanac();
-        append(x, text);
-        return x;
-    }
-
-    private static void append(TwoTownAlmanac x, String text) {
-        for (int i = 0; i < text.length(); i += 8) {
-            x.appendText(packed(text.substring(i, Math.min(text.length(), i + 8))));
-        }
     }
 
     private static void charactersAreAppended() {
         TwoTownAlmanac x = new TwoTownAlmanac();
-        Check.due(36, "appendText of 8", x.appendText(packed("!bcdefg~")), 8);
-        Check.due(36, "appendText of 1", x.appendText(packed("B")), 9);
-        Check.due(36, "appendText of 3", x.appendText(packed("1.2")), 12);
+        Check.due(36, "appendText of 8", x.appendText(Make.packed("!bcdefg~")), 8);
+        Check.due(36, "appendText of 1", x.appendText(Make.packed("B")), 9);
+        Check.due(36, "appendText of 3", x.appendText(Make.packed("1.2")), 12);
         Check.same(40, "the text", Check.textOf(x), "!bcdefg~B1.2");
         Check.due(38, "textLength()", x.textLength(), 12);
         Check.due(40, "textCharacter(0)", x.textCharacter(0), 33);
@@ -53,45 +26,21 @@ public final class TextTest {
         Check.due(36, "undoCount()", x.undoCount(), 0);
     }
 
-    private static void numbersAreRefused() {
-        long[] numbers = {0, -1, 32, 127, 128, 255, 256, 65L << 8, 65L << 56, packed("A") << 16 | 'B',
-            packed("ABCDEFG") << 8, packed("ABC ABC"), 127L << 56 | packed("ABCDEFG"), 32L << 56 | packed("ABCDEFG"),
-            1L << 63 | packed("ABCDEFG"), 1L << 62 | packed("ABC"), 1L << 63 | 65, 1L << 32 | 65, 1L << 16 | 65,
-            Long.MIN_VALUE, Long.MAX_VALUE, 0x4141_4141_4141_4180L, 0xC141_4141_4141_4141L};
-        for (long number : numbers) {
-            Check.refused(36, "appendText(" + number + ")", ARGUMENT, () -> with("A1."), x -> x.appendText(number));
-        }
-    }
-
-    private static void textHasAnEnd() {
-        String eighty = "A".repeat(80);
-        TwoTownAlmanac x = with(eighty.substring(8));
-        Check.due(36, "appendText to 80", x.appendText(packed("12345678")), 80);
-        Check.due(40, "textCharacter(79)", x.textCharacter(79), '8');
-        Check.due(36, "appendText to 80", with(eighty.substring(1)).appendText(packed("Z")), 80);
-        Supplier<TwoTownAlmanac> nearlyFull = () -> with(eighty.substring(3));
-        Check.refused(36, "appendText of 4 to 77", STATE, nearlyFull, y -> y.appendText(packed("ABCD")));
-        Check.refused(36, "appendText of 8 to 77", STATE, nearlyFull, y -> y.appendText(packed("ABCDEFGH")));
-        Check.refused(36, "appendText of 1 to 80", STATE, () -> with(eighty), y -> y.appendText(65));
-        Check.refused(36, "appendText of 0 to 80", ARGUMENT, () -> with(eighty), y -> y.appendText(0));
-        Check.refused(36, "appendText of -1 to 80", ARGUMENT, () -> with(eighty), y -> y.appendText(-1));
-    }
-
     private static void textIsCleared() {
-        TwoTownAlmanac x = with("A1.1.1");
+        TwoTownAlmanac x = Make.withText("A1.1.1");
         Check.due(37, "clearText()", x.clearText(), 6);
         Check.due(38, "textLength()", x.textLength(), 0);
         Check.due(37, "clearText()", x.clearText(), 0);
-        Check.due(36, "appendText after clearText", x.appendText(packed("B2")), 2);
+        Check.due(36, "appendText after clearText", x.appendText(Make.packed("B2")), 2);
         Check.same(40, "the text", Check.textOf(x), "B2");
-        Check.due(37, "clearText() of 80", with("A".repeat(80)).clearText(), 80);
+        Check.due(37, "clearText() of 80", Make.withText("A".repeat(80)).clearText(), 80);
         Check.due(37, "undoCount()", x.undoCount(), 0);
     }
 
     private static void error(String text, int want) {
-        Check.due(39, "textError() of " + text, with(text).textError(), want);
+        Check.due(39, "textError() of " + text, Make.withText(text).textError(), want);
         if (want != -1) {
-            Check.refused(41, "dayOfText() of " + text, STATE, () -> with(text), TwoTownAlmanac::dayOfText);
+            Check.refused(41, "dayOfText() of " + text, STATE, () -> Make.withText(text), TwoTownAlmanac::dayOfText);
         }
     }
 
@@ -140,7 +89,7 @@ public final class TextTest {
 
     private static void read(TwoTownAlmanac x, String text, int want) {
         x.clearText();
-        append(x, text);
+        Make.append(x, text);
         Check.due(41, "dayOfText() of " + text, x.dayOfText(), want);
         Check.same(41, "the text after dayOfText()", Check.textOf(x), text);
     }
@@ -187,7 +136,7 @@ public final class TextTest {
     }
 
     private static void datesAreWritten() {
-        TwoTownAlmanac x = with("A".repeat(80));
+        TwoTownAlmanac x = Make.withText("A".repeat(80));
         written(x, 0, 0, "A1.1.1");
         written(x, 1, 0, "B1.1.1");
         written(x, 0, 60, "A31.2.1");
@@ -204,10 +153,10 @@ public final class TextTest {
     }
 
     private static void textIsNoPartOfHistory() {
-        TwoTownAlmanac x = with("A1");
+        TwoTownAlmanac x = Make.withText("A1");
         x.saveState(0);
         x.setShift(3);
-        append(x, ".2");
+        Make.append(x, ".2");
         x.undo();
         Check.same(43, "the text after undo", Check.textOf(x), "A1.2");
         x.loadState(0);
@@ -215,21 +164,5 @@ public final class TextTest {
         x.writeDate(1, 0);
         x.undo();
         Check.same(43, "the text after writeDate and undo", Check.textOf(x), "B1.1.1");
-    }
-
-    private static void wrongInputs() {
-        for (int index : new int[] {-1, 3, 79, 80, Integer.MIN_VALUE, Integer.MAX_VALUE}) {
-            Check.refused(40, "textCharacter(" + index + ")", INDEX, () -> with("A1."), x -> x.textCharacter(index));
-        }
-        Check.refused(40, "textCharacter(0)", INDEX, TwoTownAlmanac::new, x -> x.textCharacter(0));
-        Check.refused(40, "textCharacter(80)", INDEX, () -> with("A".repeat(80)), x -> x.textCharacter(80));
-        Check.refused(41, "dayOfText()", STATE, TwoTownAlmanac::new, TwoTownAlmanac::dayOfText);
-        for (int town : new int[] {-1, 2, Integer.MIN_VALUE, Integer.MAX_VALUE}) {
-            Check.refused(42, "writeDate(" + town + ", 0)", INDEX, () -> with("A1."), x -> x.writeDate(town, 0));
-            Check.refused(42, "writeDate(" + town + ", -1)", INDEX, () -> with("A1."), x -> x.writeDate(town, -1));
-        }
-        for (int day : new int[] {-1, 20001, Integer.MIN_VALUE, Integer.MAX_VALUE}) {
-            Check.refused(42, "writeDate(1, " + day + ")", ARGUMENT, () -> with("A1."), x -> x.writeDate(1, day));
-        }
     }
 }

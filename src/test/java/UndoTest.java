@@ -2,11 +2,8 @@ import java.util.ArrayList;
 import java.util.List;
 import java.util.function.Consumer;
 
-/** Promises 43 to 46: undo and saved states. */
+/** Promises 43 to 46: undo and saved states, by examples; HistoryEdgesTest has the boundaries. */
 public final class UndoTest {
-    private static final Class<IndexOutOfBoundsException> INDEX = IndexOutOfBoundsException.class;
-    private static final Class<IllegalStateException> STATE = IllegalStateException.class;
-
     public static void main(String[] args) {
         everyChangeIsUndone();
         changesThatAlterNothingAreRecorded();
@@ -16,7 +13,6 @@ public final class UndoTest {
         gapsComeBack();
         slotsAreNoPartOfHistory();
         refusedChangesAreNotRecorded();
-        wrongInputs();
         Check.end("UndoTest");
     }
 
@@ -219,15 +215,5 @@ public final class UndoTest {
             }
         }
         Check.same(43, "the state after wrong changes", Check.stateOf(x), before);
-    }
-
-    private static void wrongInputs() {
-        Check.refused(43, "undo()", STATE, TwoTownAlmanac::new, TwoTownAlmanac::undo);
-        Check.refused(46, "loadState(0)", STATE, UndoTest::made, x -> x.loadState(0));
-        Check.refused(46, "loadState(1)", STATE, TwoTownAlmanac::new, x -> x.loadState(1));
-        for (int slot : new int[] {-1, 2, Integer.MIN_VALUE, Integer.MAX_VALUE}) {
-            Check.refused(45, "saveState(" + slot + ")", INDEX, UndoTest::made, x -> x.saveState(slot));
-            Check.refused(46, "loadState(" + slot + ")", INDEX, UndoTest::made, x -> x.loadState(slot));
-        }
     }
 }

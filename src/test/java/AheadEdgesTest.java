@@ -7,36 +7,23 @@ public final class AheadEdgesTest {
     private static final int[] NO_FEASTS = {-1, 4, 10, Integer.MIN_VALUE, Integer.MAX_VALUE};
 
     public static void main(String[] args) {
-        promise32Parameter();
-        promise32TodayAndThe800thDay();
-        promise32MovedFeasts();
-        promise33Parameters();
-        promise33TodayAndThe2000thDay();
-        promise34Parameter();
-        promise34TodayAndTheLastDay();
-        promise35Parameter();
-        promise35TodayAndThe400thDay();
-        promise35LeastOfSeveral();
-        lastDayOfAll();
+        Check.run(32, AheadEdgesTest::promise32Parameter);
+        Check.run(32, AheadEdgesTest::promise32TodayAndThe800thDay);
+        Check.run(32, AheadEdgesTest::promise32MovedFeasts);
+        Check.run(33, AheadEdgesTest::promise33Parameters);
+        Check.run(33, AheadEdgesTest::promise33TodayAndThe2000thDay);
+        Check.run(34, AheadEdgesTest::promise34Parameter);
+        Check.run(34, AheadEdgesTest::promise34TodayAndTheLastDay);
+        Check.run(35, AheadEdgesTest::promise35Parameter);
+        Check.run(35, AheadEdgesTest::promise35TodayAndThe400thDay);
+        Check.run(35, AheadEdgesTest::promise35LeastOfSeveral);
+        Check.run(32, AheadEdgesTest::promises32To34OnDay9999);
         Check.covered(32, 35);
         Check.end("AheadEdgesTest");
     }
 
     private static Supplier<TwoTownAlmanac> withFeasts(int count) {
         return () -> Make.busy(0, 0, count);
-    }
-
-    private static TwoTownAlmanac feastOn(int town, int month, int dayOfMonth) {
-        TwoTownAlmanac x = new TwoTownAlmanac();
-        x.addFeast(town, month, dayOfMonth);
-        return x;
-    }
-
-    /** 1.1. in town 0 and 21.11. in town 1 meet on day 3660 alone: 10 * 366 = 10 * 336 + 300. */
-    private static TwoTownAlmanac meetingOn3660(int today) {
-        TwoTownAlmanac x = feastOn(0, 1, 1);
-        x.addFeast(1, 11, 21);
-        return Make.passTo(x, today);
     }
 
     private static void promise32Parameter() {
@@ -51,7 +38,7 @@ public final class AheadEdgesTest {
     }
 
     private static void promise32TodayAndThe800thDay() {
-        TwoTownAlmanac x = feastOn(1, 2, 3);
+        TwoTownAlmanac x = Make.withFeast(1, 2, 3);
         int[] todays = {0, 29, 30, 31};
         int[] wants = {30, 30, 30, 366};
         for (int i = 0; i < todays.length; i++) {
@@ -66,13 +53,13 @@ public final class AheadEdgesTest {
             Make.passTo(left, today);
             Check.due(32, "nextDay(0) on day " + today, left.nextDay(0), today < 278 ? -1 : 1077);
         }
-        TwoTownAlmanac never = feastOn(1, 12, 29);
+        TwoTownAlmanac never = Make.withFeast(1, 12, 29);
         Check.due(32, "nextDay(0) of a feast that is never due", never.nextDay(0), -1);
     }
 
     private static void promise32MovedFeasts() {
         // due on days 30 and 366, weekdays 2, and kept on days 39 and 375: the days on which it is due don't count
-        TwoTownAlmanac x = feastOn(1, 2, 3);
+        TwoTownAlmanac x = Make.withFeast(1, 2, 3);
         x.barWeekday(0, 2);
         x.setShift(9);
         int[] todays = {0, 30, 31, 38, 39, 40};
@@ -82,7 +69,7 @@ public final class AheadEdgesTest {
             Check.due(32, "nextDay(0) on day " + todays[i], x.nextDay(0), wants[i]);
         }
         // due in year 1, on day 365, and kept in year 2, on day 374
-        TwoTownAlmanac next = feastOn(0, 12, 31);
+        TwoTownAlmanac next = Make.withFeast(0, 12, 31);
         next.barWeekday(0, 1);
         next.setShift(9);
         int[] days = {365, 366, 373, 374, 375};
@@ -132,13 +119,13 @@ public final class AheadEdgesTest {
         int[] todays = {1658, 1659, 1660, 1661, 3659, 3660, 3661};
         int[] wants = {-1, -1, 2000, 1999, 1, 0, -1};
         for (int i = 0; i < todays.length; i++) {
-            TwoTownAlmanac x = meetingOn3660(todays[i]);
+            TwoTownAlmanac x = Make.meetingOn3660(todays[i]);
             String on = " on day " + todays[i];
             Check.due(33, "daysUntilMeeting(0, 1)" + on, x.daysUntilMeeting(0, 1), wants[i]);
             Check.due(33, "daysUntilMeeting(1, 0)" + on, x.daysUntilMeeting(1, 0), wants[i]);
         }
         // two feasts of one town meet too, and where both are moved to
-        TwoTownAlmanac x = feastOn(1, 2, 3);
+        TwoTownAlmanac x = Make.withFeast(1, 2, 3);
         x.addFeast(1, 2, 3);
         Check.due(33, "daysUntilMeeting(0, 1) of one town", x.daysUntilMeeting(0, 1), 30);
         x.barWeekday(0, 2);
@@ -150,7 +137,7 @@ public final class AheadEdgesTest {
         Make.passTo(x, 40);
         Check.due(33, "daysUntilMeeting(0, 1), both moved to yesterday", x.daysUntilMeeting(0, 1), 375 - 40);
         // 31.12. of town 0 is moved from day 365 to day 374, 39 days into year 2 of town 1
-        TwoTownAlmanac next = feastOn(0, 12, 31);
+        TwoTownAlmanac next = Make.withFeast(0, 12, 31);
         next.barWeekday(0, 1);
         next.setShift(9);
         next.addFeast(1, 2, 11);
@@ -182,7 +169,7 @@ public final class AheadEdgesTest {
             {3660, 1, 1}, {3660, 400, 1}, {3661, 1, 0}, {3661, 400, 0}};
         for (int[] row : todaysDaysAndWants) {
             Check.due(34, "quarrelsWithin(" + row[1] + ") on day " + row[0],
-                    meetingOn3660(row[0]).quarrelsWithin(row[1]), row[2]);
+                    Make.meetingOn3660(row[0]).quarrelsWithin(row[1]), row[2]);
         }
         TwoTownAlmanac x = new TwoTownAlmanac();
         for (int day = 1; day <= 5; day++) {
@@ -192,6 +179,14 @@ public final class AheadEdgesTest {
         for (int days = 1; days <= 6; days++) {
             Check.due(34, "quarrelsWithin(" + days + ")", x.quarrelsWithin(days), Math.min(days, 5));
         }
+        // what was seen further ahead by an earlier call does not count
+        for (int days : new int[] {400, 5, 4, 3, 2, 1}) {
+            Check.due(34, "quarrelsWithin(" + days + ")", x.quarrelsWithin(days), Math.min(days, 5));
+        }
+        Check.due(22, "isQuarrel(5) behind the last quarrel", x.isQuarrel(5), false);
+        Check.due(21, "feastsOn(4)", x.feastsOn(4), 256 + 512);
+        Check.due(27, "passDays(1) after quarrelsWithin(400)", x.passDays(1), 1);
+        Check.due(29, "feastsKept(0) after quarrelsWithin(400)", x.feastsKept(0), 1);
     }
 
     private static void promise35Parameter() {
@@ -219,7 +214,7 @@ public final class AheadEdgesTest {
         int[] wants = {0, 6, 6, 0};
         for (int i = 0; i < todays.length; i++) {
             for (int feast = 0; feast < 2; feast++) {
-                TwoTownAlmanac x = meetingOn3660(todays[i]);
+                TwoTownAlmanac x = Make.meetingOn3660(todays[i]);
                 String call = "bestBarredWeekday(" + feast + ") on day " + todays[i];
                 Check.due(35, call, x.bestBarredWeekday(feast), wants[i]);
                 x.barWeekday(feast, 6);
@@ -231,21 +226,21 @@ public final class AheadEdgesTest {
 
     private static void promise35LeastOfSeveral() {
         for (int weekday = 0; weekday < 7; weekday++) {
-            TwoTownAlmanac x = feastOn(0, 1, 1 + weekday);
+            TwoTownAlmanac x = Make.withFeast(0, 1, 1 + weekday);
             x.addFeast(1, 1, 1 + weekday);
             Check.due(35, "bestBarredWeekday(1) of a quarrel on weekday " + weekday, x.bestBarredWeekday(1), weekday);
         }
         // 0 would make a quarrel on day 1; all others would leave none
-        TwoTownAlmanac made = feastOn(0, 1, 1);
+        TwoTownAlmanac made = Make.withFeast(0, 1, 1);
         made.addFeast(1, 1, 2);
         Check.due(35, "bestBarredWeekday(0), 0 makes a quarrel", made.bestBarredWeekday(0), 1);
         // the quarrel on day 0 goes on with any weekday barred for a third feast
-        TwoTownAlmanac same = feastOn(0, 1, 1);
+        TwoTownAlmanac same = Make.withFeast(0, 1, 1);
         same.addFeast(1, 1, 1);
         same.addFeast(1, 1, 1);
         Check.due(35, "bestBarredWeekday(2), the other still quarrels", same.bestBarredWeekday(2), 0);
         // with 0 barred for feast 0 there is no quarrel; the answer counts as if it were not
-        TwoTownAlmanac barred = feastOn(0, 1, 1);
+        TwoTownAlmanac barred = Make.withFeast(0, 1, 1);
         barred.addFeast(1, 1, 1);
         barred.barWeekday(0, 0);
         Check.due(35, "bestBarredWeekday(0) with 0 barred", barred.bestBarredWeekday(0), 0);
@@ -256,7 +251,7 @@ public final class AheadEdgesTest {
     }
 
     /** On day 9999 all that looks ahead sees days that will never be today. */
-    private static void lastDayOfAll() {
+    private static void promises32To34OnDay9999() {
         // the feasts' days: 9999, 10398 and 10798 for both towns
         int[] days = {9999, 10398, 10798};
         TwoTownAlmanac x = new TwoTownAlmanac();

@@ -8,14 +8,6 @@ public final class AheadTest {
         Check.end("AheadTest");
     }
 
-    /** 1.1. in town 0 and 21.11. in town 1 meet on day 3660 alone: 10 * 366 = 10 * 336 + 300. */
-    private static TwoTownAlmanac meetingOn3660(int today) {
-        TwoTownAlmanac x = new TwoTownAlmanac();
-        x.addFeast(0, 1, 1);
-        x.addFeast(1, 11, 21);
-        return Make.passTo(x, today);
-    }
-
     private static void nextDayCountsToday() {
         TwoTownAlmanac x = new TwoTownAlmanac();
         x.addFeast(0, 1, 3);
@@ -72,7 +64,7 @@ public final class AheadTest {
     }
 
     private static void lookingAheadChangesNothing() {
-        TwoTownAlmanac x = meetingOn3660(3261);
+        TwoTownAlmanac x = Make.meetingOn3660(3261);
         x.barWeekday(0, 2);
         String before = Check.stateOf(x);
         int undos = x.undoCount();

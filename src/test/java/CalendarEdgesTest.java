@@ -9,22 +9,22 @@ public final class CalendarEdgesTest {
     private static final int GREATEST = Integer.MAX_VALUE;
 
     public static void main(String[] args) {
-        promise1NewObject();
-        promise1ObjectsShareNothing();
-        promise2Parameters();
-        promise2LaterThanTheLatestGap();
-        promise2Rows();
-        promise2OrderOfThrows();
-        promise2DaysLeftOut();
-        promise3();
-        promises4And5();
-        promise6();
-        promises7To9();
-        promises7To9Boundaries();
-        promise10();
-        promise11Parameters();
-        promise11Boundaries();
-        promise11LeftOutDates();
+        Check.run(1, CalendarEdgesTest::promise1NewObject);
+        Check.run(1, CalendarEdgesTest::promise1ObjectsShareNothing);
+        Check.run(2, CalendarEdgesTest::promise2Parameters);
+        Check.run(2, CalendarEdgesTest::promise2LaterThanTheLatestGap);
+        Check.run(2, CalendarEdgesTest::promise2Rows);
+        Check.run(2, CalendarEdgesTest::promise2OrderOfThrows);
+        Check.run(2, CalendarEdgesTest::promise2DaysLeftOut);
+        Check.run(3, CalendarEdgesTest::promise3);
+        Check.run(4, CalendarEdgesTest::promises4And5);
+        Check.run(6, CalendarEdgesTest::promise6);
+        Check.run(7, CalendarEdgesTest::promises7To9);
+        Check.run(7, CalendarEdgesTest::promises7To9Boundaries);
+        Check.run(10, CalendarEdgesTest::promise10);
+        Check.run(11, CalendarEdgesTest::promise11Parameters);
+        Check.run(11, CalendarEdgesTest::promise11Boundaries);
+        Check.run(11, CalendarEdgesTest::promise11LeftOutDates);
         Check.covered(1, 11);
         Check.end("CalendarEdgesTest");
     }
@@ -261,35 +261,28 @@ public final class CalendarEdgesTest {
             for (int months = 0; months < 25; months++) {
                 int month = months % 12 + 1;
                 int length = town == 1 ? 28 : month % 2 == 1 ? 30 : 31;
-                dateIs(x, town, first, 1, month, months / 12 + 1);
-                dateIs(x, town, first + length - 1, length, month, months / 12 + 1);
+                Check.date(x, town, first, 1, month, months / 12 + 1);
+                Check.date(x, town, first + length - 1, length, month, months / 12 + 1);
                 first += length;
             }
         }
         // a gap up to the last day of a month, and one day longer
-        dateIs(Make.withGaps(0, 9, 20), 0, 10, 1, 2, 1);
-        dateIs(Make.withGaps(0, 9, 19), 0, 10, 30, 1, 1);
+        Check.date(Make.withGaps(0, 9, 20), 0, 10, 1, 2, 1);
+        Check.date(Make.withGaps(0, 9, 19), 0, 10, 30, 1, 1);
         // a gap up to the last day of a year, and one day longer
-        dateIs(Make.withGaps(0, 360, 5), 0, 361, 1, 1, 2);
-        dateIs(Make.withGaps(0, 360, 4), 0, 361, 31, 12, 1);
-        dateIs(Make.withGaps(1, 320, 15), 1, 321, 1, 1, 2);
-        dateIs(Make.withGaps(1, 320, 14), 1, 321, 28, 12, 1);
+        Check.date(Make.withGaps(0, 360, 5), 0, 361, 1, 1, 2);
+        Check.date(Make.withGaps(0, 360, 4), 0, 361, 31, 12, 1);
+        Check.date(Make.withGaps(1, 320, 15), 1, 321, 1, 1, 2);
+        Check.date(Make.withGaps(1, 320, 14), 1, 321, 28, 12, 1);
         // three full gaps, one right behind the other
         TwoTownAlmanac three = Make.withGaps(1, 9997, 40, 9998, 40, 9999, 40);
         // 9997 = 29 * 336 + 9 * 28 + 1
-        dateIs(three, 1, 9997, 2, 10, 30);
-        dateIs(three, 1, 9998, 15, 11, 30);
-        dateIs(three, 1, 9999, 28, 12, 30);
-        dateIs(three, 1, 10000, 13, 2, 31);
-        dateIs(three, 1, 20000, 17, 11, 60);
-        dateIs(three, 0, 20000, 24, 8, 55);
-    }
-
-    private static void dateIs(TwoTownAlmanac x, int town, int day, int dayOfMonth, int month, int year) {
-        String of = "(" + town + ", " + day + ")";
-        Check.due(7, "dayOfMonth" + of, x.dayOfMonth(town, day), dayOfMonth);
-        Check.due(8, "monthOf" + of, x.monthOf(town, day), month);
-        Check.due(9, "yearOf" + of, x.yearOf(town, day), year);
+        Check.date(three, 1, 9997, 2, 10, 30);
+        Check.date(three, 1, 9998, 15, 11, 30);
+        Check.date(three, 1, 9999, 28, 12, 30);
+        Check.date(three, 1, 10000, 13, 2, 31);
+        Check.date(three, 1, 20000, 17, 11, 60);
+        Check.date(three, 0, 20000, 24, 8, 55);
     }
 
     private static void promise10() {

@@ -45,49 +45,42 @@ public final class CalendarTest {
         }
     }
 
-    private static void date(TwoTownAlmanac x, int town, int day, int dayOfMonth, int month, int year) {
-        String of = "(" + town + ", " + day + ")";
-        Check.due(7, "dayOfMonth" + of, x.dayOfMonth(town, day), dayOfMonth);
-        Check.due(8, "monthOf" + of, x.monthOf(town, day), month);
-        Check.due(9, "yearOf" + of, x.yearOf(town, day), year);
-    }
-
     private static void daysHaveDates() {
         TwoTownAlmanac x = new TwoTownAlmanac();
-        date(x, 0, 0, 1, 1, 1);
-        date(x, 0, 29, 30, 1, 1);
-        date(x, 0, 30, 1, 2, 1);
-        date(x, 0, 60, 31, 2, 1);
-        date(x, 0, 61, 1, 3, 1);
-        date(x, 0, 334, 30, 11, 1);
-        date(x, 0, 335, 1, 12, 1);
-        date(x, 0, 365, 31, 12, 1);
-        date(x, 0, 366, 1, 1, 2);
-        date(x, 0, 20000, 24, 8, 55);
-        date(x, 1, 0, 1, 1, 1);
-        date(x, 1, 27, 28, 1, 1);
-        date(x, 1, 28, 1, 2, 1);
-        date(x, 1, 335, 28, 12, 1);
-        date(x, 1, 336, 1, 1, 2);
-        date(x, 1, 20000, 9, 7, 60);
+        Check.date(x, 0, 0, 1, 1, 1);
+        Check.date(x, 0, 29, 30, 1, 1);
+        Check.date(x, 0, 30, 1, 2, 1);
+        Check.date(x, 0, 60, 31, 2, 1);
+        Check.date(x, 0, 61, 1, 3, 1);
+        Check.date(x, 0, 334, 30, 11, 1);
+        Check.date(x, 0, 335, 1, 12, 1);
+        Check.date(x, 0, 365, 31, 12, 1);
+        Check.date(x, 0, 366, 1, 1, 2);
+        Check.date(x, 0, 20000, 24, 8, 55);
+        Check.date(x, 1, 0, 1, 1, 1);
+        Check.date(x, 1, 27, 28, 1, 1);
+        Check.date(x, 1, 28, 1, 2, 1);
+        Check.date(x, 1, 335, 28, 12, 1);
+        Check.date(x, 1, 336, 1, 1, 2);
+        Check.date(x, 1, 20000, 9, 7, 60);
     }
 
     private static void gapsMoveDates() {
         TwoTownAlmanac x = Make.withGaps(0, 5, 10, 6, 3, 9999, 40);
-        date(x, 0, 5, 6, 1, 1);
-        date(x, 0, 6, 17, 1, 1);
-        date(x, 0, 7, 21, 1, 1);
-        date(x, 1, 7, 8, 1, 1);
-        date(x, 0, 16, 30, 1, 1);
-        date(x, 0, 17, 1, 2, 1);
-        date(x, 0, 352, 31, 12, 1);
-        date(x, 0, 353, 1, 1, 2);
+        Check.date(x, 0, 5, 6, 1, 1);
+        Check.date(x, 0, 6, 17, 1, 1);
+        Check.date(x, 0, 7, 21, 1, 1);
+        Check.date(x, 1, 7, 8, 1, 1);
+        Check.date(x, 0, 16, 30, 1, 1);
+        Check.date(x, 0, 17, 1, 2, 1);
+        Check.date(x, 0, 352, 31, 12, 1);
+        Check.date(x, 0, 353, 1, 1, 2);
         // 9999 + 13 = 27 * 366 + 130, and 40 days are left out behind it
-        date(x, 0, 9999, 9, 5, 28);
-        date(x, 0, 10000, 20, 6, 28);
-        date(Make.withGaps(1, 0, 40, 1, 40, 2, 40), 1, 20000, 17, 11, 60);
-        date(Make.withGaps(1, 0, 40), 1, 0, 1, 1, 1);
-        date(Make.withGaps(1, 0, 40), 1, 1, 14, 2, 1);
+        Check.date(x, 0, 9999, 9, 5, 28);
+        Check.date(x, 0, 10000, 20, 6, 28);
+        Check.date(Make.withGaps(1, 0, 40, 1, 40, 2, 40), 1, 20000, 17, 11, 60);
+        Check.date(Make.withGaps(1, 0, 40), 1, 0, 1, 1, 1);
+        Check.date(Make.withGaps(1, 0, 40), 1, 1, 14, 2, 1);
     }
 
     private static void daysHaveWeekdays() {

@@ -1,12 +1,13 @@
 import java.util.Objects;
-import java.util.TreeSet;
+import java.util.TreeMap;
 import java.util.function.Consumer;
 import java.util.function.Supplier;
 
 /** What the tests share: checks that count what is wrong, and views of a whole almanac. */
 final class Check {
-    private static final int MOST_PRINTED = 40;
-    private static final TreeSet<Integer> PROMISES = new TreeSet<>();
+    private static final int MOST_PRINTED_OF_A_PROMISE = 10;
+    /** How many checks of each promise were wrong; 0 for a promise whose checks all held. */
+    private static final TreeMap<Integer, Integer> WRONG_OF_PROMISE = new TreeMap<>();
     private static int checked = 0;
     private static int wrong = 0;
 
@@ -23,13 +24,42 @@ final class Check {
 
     static void same(int promise, String call, Object got, Object want) {
         checked++;
-        PROMISES.add(promise);
-        if (!Objects.equals(got, want)) {
+        boolean isWrong = !Objects.equals(got, want);
+        int wrongOfPromise = WRONG_OF_PROMISE.merge(promise, isWrong ? 1 : 0, Integer::sum);
+        if (isWrong) {
             wrong++;
-            if (wrong <= MOST_PRINTED) {
+            if (wrongOfPromise <= MOST_PRINTED_OF_A_PROMISE) {
                 System.out.println("promise " + promise + ": " + call + " answered " + got + ", due is " + want);
             }
         }
+    }
+
+    /** The date that a town has on a day: promises 7, 8 and 9. */
+    static void date(TwoTownAlmanac x, int town, int day, int dayOfMonth, int month, int year) {
+        String of = "(" + town + ", " + day + ")";
+        due(7, "dayOfMonth" + of, x.dayOfMonth(town, day), dayOfMonth);
+        due(8, "monthOf" + of, x.monthOf(town, day), month);
+        due(9, "yearOf" + of, x.yearOf(town, day), year);
+    }
+
+    /** Runs the checks of a promise; an exception that ends them is wrong too, and the other promises go on. */
+    static void run(int promise, Runnable checks) {
+        try {
+            checks.run();
+        } catch (RuntimeException e) {
+            same(promise, "a call that must not throw, at " + testLine(e), e, "an answer");
+        }
+    }
+
+    /** The line of a test that made the call, as far as the exception tells. */
+    private static String testLine(RuntimeException thrown) {
+        for (StackTraceElement place : thrown.getStackTrace()) {
+            String type = place.getClassName();
+            if (type.endsWith("Test")) {
+                return place.getFileName() + ":" + place.getLineNumber();
+            }
+        }
+        return "an unknown line";
     }
 
     /** The call must throw just this class, and an almanac with the call must be like one without it. */
@@ -115,7 +145,7 @@ final class Check {
     /** Each promise from the first to the last must have been checked. */
     static void covered(int first, int last) {
         for (int promise = first; promise <= last; promise++) {
-            same(promise, "being checked", PROMISES.contains(promise), true);
+            same(promise, "being checked", WRONG_OF_PROMISE.containsKey(promise), true);
         }
     }
 

@@ -12,36 +12,29 @@ public final class FeastEdgesTest {
     private static final int[] COUNTS = {0, 1, 9, 10};
 
     public static void main(String[] args) {
-        promise12Parameters();
-        promise12Row();
-        promise12OrderOfThrows();
-        promise13();
-        promise14();
-        promise15();
-        promises16And17();
-        promises18And19Parameters();
-        promise18ShortMonths();
-        promise18LeftOutDates();
-        promise18LastDayOfTheYear();
-        promise19Shift();
-        promise19NextYear();
-        promise20Parameters();
-        promise20WhateverYear();
-        promise21();
-        promise22();
+        Check.run(12, FeastEdgesTest::promise12Parameters);
+        Check.run(12, FeastEdgesTest::promise12Row);
+        Check.run(12, FeastEdgesTest::promise12OrderOfThrows);
+        Check.run(13, FeastEdgesTest::promise13);
+        Check.run(14, FeastEdgesTest::promise14);
+        Check.run(15, FeastEdgesTest::promise15);
+        Check.run(16, FeastEdgesTest::promises16And17);
+        Check.run(18, FeastEdgesTest::promises18And19Parameters);
+        Check.run(18, FeastEdgesTest::promise18ShortMonths);
+        Check.run(18, FeastEdgesTest::promise18LeftOutDates);
+        Check.run(18, FeastEdgesTest::promise18LastDayOfTheYear);
+        Check.run(19, FeastEdgesTest::promise19Shift);
+        Check.run(19, FeastEdgesTest::promise19NextYear);
+        Check.run(20, FeastEdgesTest::promise20Parameters);
+        Check.run(20, FeastEdgesTest::promise20WhateverYear);
+        Check.run(21, FeastEdgesTest::promise21);
+        Check.run(22, FeastEdgesTest::promise22);
         Check.covered(12, 22);
         Check.end("FeastEdgesTest");
     }
 
     private static Supplier<TwoTownAlmanac> withFeasts(int count) {
         return () -> Make.busy(2, 2, count);
-    }
-
-    /** An almanac with one feast. */
-    private static TwoTownAlmanac feastOn(int town, int month, int dayOfMonth) {
-        TwoTownAlmanac x = new TwoTownAlmanac();
-        x.addFeast(town, month, dayOfMonth);
-        return x;
     }
 
     /** The index of a feast, for rows of several lengths; the answer at the greatest may depend on it. */
@@ -65,7 +58,7 @@ public final class FeastEdgesTest {
             new Edge(12, "addFeast(" + town + ", 1, ?)", Make::busy, (x, day) -> x.addFeast(chosen, 1, day))
                     .least(1, 4).greatest(31, 4).outside(ARGUMENT);
         }
-        TwoTownAlmanac x = feastOn(1, 12, 28);
+        TwoTownAlmanac x = Make.withFeast(1, 12, 28);
         x.addFeast(0, 1, 1);
         x.addFeast(0, 12, 31);
         Check.due(12, "feastTown(0)", x.feastTown(0), 1);
@@ -228,11 +221,11 @@ public final class FeastEdgesTest {
                 int firstOfA = (month - 1) * 30 + (month - 1) / 2;
                 int lengthOfA = month % 2 == 1 ? 30 : 31;
                 String told = ", month " + month + ", day " + day;
-                dueIs(feastOn(0, month, day), "town 0" + told, 1, firstOfA + Math.min(day - 1, lengthOfA));
+                dueIs(Make.withFeast(0, month, day), "town 0" + told, 1, firstOfA + Math.min(day - 1, lengthOfA));
                 boolean none = month == 12 && day > 28;
                 int ofB = (month - 1) * 28 + Math.min(day - 1, 28);
-                dueIs(feastOn(1, month, day), "town 1" + told, 1, none ? -1 : ofB);
-                dueIs(feastOn(1, month, day), "town 1" + told, 60, none ? -1 : 59 * 336 + ofB);
+                dueIs(Make.withFeast(1, month, day), "town 1" + told, 1, none ? -1 : ofB);
+                dueIs(Make.withFeast(1, month, day), "town 1" + told, 60, none ? -1 : 59 * 336 + ofB);
             }
         }
     }
@@ -242,17 +235,17 @@ public final class FeastEdgesTest {
         int[][] datesAndDays = {{1, 20, 19}, {1, 21, 20}, {1, 30, 20}, {1, 31, 20}, {2, 1, 20}, {2, 9, 20},
             {2, 10, 20}, {2, 11, 21}};
         for (int[] date : datesAndDays) {
-            TwoTownAlmanac x = feastOn(0, date[0], date[1]);
+            TwoTownAlmanac x = Make.withFeast(0, date[0], date[1]);
             x.addGap(0, 19, 19);
             dueIs(x, "month " + date[0] + ", day " + date[1], 1, date[2]);
         }
         // the other town's gap leaves nothing out
-        TwoTownAlmanac other = feastOn(0, 1, 21);
+        TwoTownAlmanac other = Make.withFeast(0, 1, 21);
         other.addGap(1, 19, 19);
         dueIs(other, "month 1, day 21", 1, 20);
         // 29.1. to 31.1. of town 1 and 1.2. are all due on the first day of a later date
         for (int day = 29; day <= 31; day++) {
-            TwoTownAlmanac x = feastOn(1, 1, day);
+            TwoTownAlmanac x = Make.withFeast(1, 1, day);
             x.addGap(1, 20, 7);
             dueIs(x, "day " + day + ", 1.2. just kept", 1, 21);
             x.addGap(1, 21, 7);
@@ -294,7 +287,7 @@ public final class FeastEdgesTest {
     private static void promise19Shift() {
         int[] later = {1, 2, 3, 4, 5, 6, 1, 8, 9};
         for (int shift = 1; shift <= 9; shift++) {
-            TwoTownAlmanac x = feastOn(1, 1, 6);
+            TwoTownAlmanac x = Make.withFeast(1, 1, 6);
             x.setShift(shift);
             for (int weekday = 0; weekday < 7; weekday++) {
                 x.barWeekday(0, weekday);
@@ -304,14 +297,14 @@ public final class FeastEdgesTest {
             }
         }
         // day 0 is a weekday 0, day 13 the last day before weekday 0 comes again
-        TwoTownAlmanac first = feastOn(0, 1, 1);
+        TwoTownAlmanac first = Make.withFeast(0, 1, 1);
         first.barWeekday(0, 0);
         Check.due(19, "dayKept(0, 1) of day 0", first.dayKept(0, 1), 1);
-        TwoTownAlmanac last = feastOn(0, 1, 14);
+        TwoTownAlmanac last = Make.withFeast(0, 1, 14);
         last.barWeekday(0, 6);
         Check.due(19, "dayKept(0, 1) of day 13", last.dayKept(0, 1), 14);
         // a feast that is due later because its date is left out is moved from the day on which it is due
-        TwoTownAlmanac both = feastOn(0, 1, 3);
+        TwoTownAlmanac both = Make.withFeast(0, 1, 3);
         both.addGap(0, 1, 3);
         both.barWeekday(0, 2);
         Check.due(18, "dayDue(0, 1)", both.dayDue(0, 1), 2);
@@ -321,7 +314,7 @@ public final class FeastEdgesTest {
     private static void promise19NextYear() {
         int[] dues = {356, 357, 364, 365};
         for (int due : dues) {
-            TwoTownAlmanac x = feastOn(0, 12, due - 335 + 1);
+            TwoTownAlmanac x = Make.withFeast(0, 12, due - 335 + 1);
             x.barWeekday(0, due % 7);
             x.setShift(9);
             Check.due(19, "dayKept(0, 1) of day " + due, x.dayKept(0, 1), due + 9);
@@ -330,27 +323,28 @@ public final class FeastEdgesTest {
             Check.due(20, "isKept on day " + due, x.isKept(0, due), false);
             Check.due(21, "feastsOn day " + (due + 9), x.feastsOn(due + 9), 1);
         }
-        TwoTownAlmanac last = feastOn(0, 12, 31);
+        TwoTownAlmanac last = Make.withFeast(0, 12, 31);
         last.barWeekday(0, (60 * 366 - 1) % 7);
         Check.due(19, "dayKept(0, 60)", last.dayKept(0, 60), 60 * 366);
     }
 
+    /** Feasts 4 and 5 are kept on day 20000, 24.8. of town 0 and 9.7. of town 1; feast 6 on day 0. */
+    private static TwoTownAlmanac firstAndLastDay() {
+        TwoTownAlmanac x = Make.busy(0, 0, 4);
+        x.addFeast(0, 8, 24);
+        x.addFeast(1, 7, 9);
+        x.addFeast(0, 1, 1);
+        return x;
+    }
+
     private static void promise20Parameters() {
         feastEdges(20, "isKept(?, 1)", (x, feast) -> x.isKept(feast, 1) ? 1 : 0, 1, (x, last) -> last < 2 ? 1 : 0);
-        // 24.8. is day 20000 of town 0, 9.7. of town 1
-        Supplier<TwoTownAlmanac> made = () -> {
-            TwoTownAlmanac x = Make.busy(0, 0, 4);
-            x.addFeast(0, 8, 24);
-            x.addFeast(1, 7, 9);
-            x.addFeast(0, 1, 1);
-            return x;
-        };
         for (int feast = 4; feast < 6; feast++) {
             int chosen = feast;
-            new Edge(20, "isKept(" + feast + ", ?)", made, (x, day) -> x.isKept(chosen, day) ? 1 : 0)
-                    .least(0, 0).greatest(20000, 1).outside(ARGUMENT);
+            new Edge(20, "isKept(" + feast + ", ?)", FeastEdgesTest::firstAndLastDay,
+                    (x, day) -> x.isKept(chosen, day) ? 1 : 0).least(0, 0).greatest(20000, 1).outside(ARGUMENT);
         }
-        new Edge(20, "isKept(6, ?)", made, (x, day) -> x.isKept(6, day) ? 1 : 0)
+        new Edge(20, "isKept(6, ?)", FeastEdgesTest::firstAndLastDay, (x, day) -> x.isKept(6, day) ? 1 : 0)
                 .least(0, 1).greatest(20000, 0).outside(ARGUMENT);
         for (int feast : NO_FEASTS) {
             for (int day : new int[] {-1, 20001, LEAST, GREATEST}) {
@@ -360,7 +354,7 @@ public final class FeastEdgesTest {
     }
 
     private static void promise20WhateverYear() {
-        TwoTownAlmanac x = feastOn(1, 12, 28);
+        TwoTownAlmanac x = Make.withFeast(1, 12, 28);
         for (int year = 1; year < 60; year++) {
             int due = year * 336 - 1;
             Check.due(20, "isKept(0, " + due + ")", x.isKept(0, due), true);
@@ -368,13 +362,13 @@ public final class FeastEdgesTest {
             Check.due(20, "isKept(0, " + (due + 1) + ")", x.isKept(0, due + 1), false);
         }
         // the same feast on two days near a new year: moved out of year 1, and in year 2
-        TwoTownAlmanac near = feastOn(0, 1, 1);
+        TwoTownAlmanac near = Make.withFeast(0, 1, 1);
         near.addGap(0, 0, 40);
         near.barWeekday(0, 0);
         Check.due(20, "isKept(0, 1)", near.isKept(0, 1), true);
         Check.due(20, "isKept(0, 326)", near.isKept(0, 326), true);
         // a feast of year 60 that is moved to day 20000, and one that is moved behind it
-        TwoTownAlmanac last = feastOn(1, 7, 1);
+        TwoTownAlmanac last = Make.withFeast(1, 7, 1);
         last.barWeekday(0, 19992 % 7);
         last.setShift(8);
         Check.due(20, "isKept(0, 20000)", last.isKept(0, 20000), true);
@@ -410,17 +404,10 @@ public final class FeastEdgesTest {
     }
 
     private static void promise22() {
-        Supplier<TwoTownAlmanac> made = () -> {
-            TwoTownAlmanac x = Make.busy(0, 0, 4);
-            x.addFeast(0, 8, 24);
-            x.addFeast(1, 7, 9);
-            x.addFeast(0, 1, 1);
-            return x;
-        };
-        new Edge(22, "isQuarrel(?)", made, (x, day) -> x.isQuarrel(day) ? 1 : 0)
+        new Edge(22, "isQuarrel(?)", FeastEdgesTest::firstAndLastDay, (x, day) -> x.isQuarrel(day) ? 1 : 0)
                 .least(0, 0).greatest(20000, 1).outside(ARGUMENT);
         Supplier<TwoTownAlmanac> onDay0 = () -> {
-            TwoTownAlmanac x = made.get();
+            TwoTownAlmanac x = firstAndLastDay();
             x.addFeast(1, 1, 1);
             x.addGap(1, 9999, 1);
             return x;

@@ -7,24 +7,25 @@ import java.util.function.Supplier;
 public final class HistoryEdgesTest {
     private static final Class<IndexOutOfBoundsException> INDEX = IndexOutOfBoundsException.class;
     private static final Class<IllegalStateException> STATE = IllegalStateException.class;
-    private static final String[] CHANGES = {"addGap", "addFeast", "barWeekday", "allowAllWeekdays", "setShift",
-        "setCopiesPerDay", "passDays", "loadState"};
+    /** The promises that say "This is a change". */
+    private static final int[] CHANGES = {2, 12, 13, 14, 23, 25, 27, 46};
 
     public static void main(String[] args) {
-        promise43EachChangeIsRecorded();
-        promise43ChangesThatAlterNothing();
-        promise43OldestIsDropped();
-        promise43ManyChanges();
-        promise43Empty();
-        promise43NoPartOfAState();
-        promise43OtherCallsRecordNothing();
-        promise44();
-        promise45Parameter();
-        promise45Replaces();
-        promise46Parameter();
-        promise46NothingSaved();
-        promise46SlotKeepsIt();
-        promise46OrderOfThrows();
+        Check.run(43, HistoryEdgesTest::promise43EachChangeIsRecorded);
+        Check.run(43, HistoryEdgesTest::promise43ChangesThatAlterNothing);
+        Check.run(43, HistoryEdgesTest::promise43OldestIsDropped);
+        Check.run(43, HistoryEdgesTest::promise43ManyChanges);
+        Check.run(43, HistoryEdgesTest::promises43And46FullRows);
+        Check.run(43, HistoryEdgesTest::promise43Empty);
+        Check.run(43, HistoryEdgesTest::promise43NoPartOfAState);
+        Check.run(43, HistoryEdgesTest::promise43OtherCallsRecordNothing);
+        Check.run(44, HistoryEdgesTest::promise44);
+        Check.run(45, HistoryEdgesTest::promise45Parameter);
+        Check.run(45, HistoryEdgesTest::promise45Replaces);
+        Check.run(46, HistoryEdgesTest::promise46Parameter);
+        Check.run(46, HistoryEdgesTest::promise46NothingSaved);
+        Check.run(46, HistoryEdgesTest::promise46SlotKeepsIt);
+        Check.run(46, HistoryEdgesTest::promise46OrderOfThrows);
         Check.covered(43, 46);
         Check.end("HistoryEdgesTest");
     }
@@ -38,15 +39,16 @@ public final class HistoryEdgesTest {
         return x;
     }
 
-    private static void change(TwoTownAlmanac x, String kind) {
-        switch (kind) {
-            case "addGap" -> x.addGap(1, 9999, 40);
-            case "addFeast" -> x.addFeast(1, 12, 31);
-            case "barWeekday" -> x.barWeekday(2, 0);
-            case "allowAllWeekdays" -> x.allowAllWeekdays(1);
-            case "setShift" -> x.setShift(9);
-            case "setCopiesPerDay" -> x.setCopiesPerDay(9);
-            case "passDays" -> x.passDays(400);
+    /** Makes the change of which a promise tells. */
+    private static void change(TwoTownAlmanac x, int promise) {
+        switch (promise) {
+            case 2 -> x.addGap(1, 9999, 40);
+            case 12 -> x.addFeast(1, 12, 31);
+            case 13 -> x.barWeekday(2, 0);
+            case 14 -> x.allowAllWeekdays(1);
+            case 23 -> x.setShift(9);
+            case 25 -> x.setCopiesPerDay(9);
+            case 27 -> x.passDays(400);
             default -> x.loadState(1);
         }
     }
@@ -65,20 +67,29 @@ public final class HistoryEdgesTest {
     /** With nothing recorded, one state before full, and full: the change is undone, the oldest states are kept. */
     private static void promise43EachChangeIsRecorded() {
         for (int recorded : new int[] {0, 1, 5, 6}) {
-            for (String kind : CHANGES) {
-                String told = kind + " with " + recorded + " recorded";
-                List<String> before = states(withRecorded(recorded));
-                TwoTownAlmanac x = withRecorded(recorded);
-                change(x, kind);
-                Check.due(44, "undoCount() after " + told, x.undoCount(), Math.min(6, recorded + 1));
-                // the slot's state is the present one where only one state is recorded
-                Check.due(43, told + " alters the state", !Check.stateOf(x).equals(before.get(0)),
-                        !kind.equals("loadState") || !before.get(0).equals(slotState(1)));
-                List<String> after = states(x);
-                Check.same(43, "the states that undo brings back after " + told, after.subList(1, after.size()),
-                        before.subList(0, Math.min(6, recorded + 1)));
+            for (int promise : CHANGES) {
+                eachChangeIsRecorded(promise, recorded);
             }
         }
+    }
+
+    private static void eachChangeIsRecorded(int promise, int recorded) {
+        String told = "the change of promise " + promise + " with " + recorded + " recorded";
+        List<String> before = states(withRecorded(recorded));
+        TwoTownAlmanac x = withRecorded(recorded);
+        change(x, promise);
+        // what is present where nothing is recorded any more is what the slot holds
+        boolean alters = promise != 46 || !before.get(0).equals(slotState(1));
+        Check.due(promise, told + " alters the state", !Check.stateOf(x).equals(before.get(0)), alters);
+        int due = Math.min(6, recorded + 1);
+        int count = x.undoCount();
+        Check.due(promise, "undoCount() after " + told, count, due);
+        Check.due(44, "undoCount() after " + told, count, due);
+        List<String> undone = states(x);
+        undone.remove(0);
+        List<String> kept = before.subList(0, due);
+        Check.same(promise, "the states that undo brings back after " + told, undone, kept);
+        Check.same(43, "the states that undo brings back after " + told, undone, kept);
     }
 
     private static String slotState(int slot) {
@@ -154,6 +165,44 @@ public final class HistoryEdgesTest {
                 Check.due(43, "today() in round " + round, x.today(), want);
             }
         }
+    }
+
+    /** Three gaps of each town and ten feasts, with other numbers for another variant. */
+    private static void fill(TwoTownAlmanac x, int variant) {
+        for (int gap = 0; gap < 3; gap++) {
+            x.addGap(0, 20 + 100 * gap + variant, 5 + gap + variant);
+            x.addGap(1, 30 + 100 * gap + variant, 9 + gap + variant);
+        }
+        for (int feast = 0; feast < 10; feast++) {
+            x.addFeast((feast + variant) % 2, 1 + feast + variant, 3 + feast + variant);
+        }
+        for (int feast = variant; feast < 10; feast += 3) {
+            x.barWeekday(feast, (feast + variant) % 7);
+        }
+    }
+
+    /** All that the rows of gaps and feasts hold is saved, loaded, recorded and undone, down to the last one. */
+    private static void promises43And46FullRows() {
+        TwoTownAlmanac x = new TwoTownAlmanac();
+        String empty = Check.stateOf(x);
+        x.saveState(0);
+        fill(x, 0);
+        String first = Check.stateOf(x);
+        x.saveState(1);
+        x.loadState(0);
+        Check.same(46, "the empty rows", Check.stateOf(x), empty);
+        fill(x, 1);
+        String second = Check.stateOf(x);
+        x.saveState(0);
+        x.loadState(1);
+        Check.same(46, "the full rows of slot 1", Check.stateOf(x), first);
+        x.undo();
+        Check.same(43, "the full rows before loadState(1)", Check.stateOf(x), second);
+        x.loadState(1);
+        x.loadState(0);
+        Check.same(46, "the full rows of slot 0", Check.stateOf(x), second);
+        x.undo();
+        Check.same(43, "the full rows before loadState(0)", Check.stateOf(x), first);
     }
 
     private static void promise43Empty() {
@@ -307,17 +356,18 @@ public final class HistoryEdgesTest {
     private static void promise46SlotKeepsIt() {
         for (int slot = 0; slot < 2; slot++) {
             String saved = slotState(slot);
-            for (String kind : CHANGES) {
+            for (int promise : CHANGES) {
+                String told = "slot " + slot + " after the change of promise " + promise;
                 TwoTownAlmanac x = Make.busy();
                 x.loadState(slot);
-                change(x, kind);
+                change(x, promise);
                 x.loadState(slot);
-                Check.same(46, "slot " + slot + " after loadState and " + kind, Check.stateOf(x), saved);
+                Check.same(46, told, Check.stateOf(x), saved);
                 x.undo();
                 x.undo();
                 x.undo();
                 x.loadState(slot);
-                Check.same(46, "slot " + slot + " after " + kind + " and undo", Check.stateOf(x), saved);
+                Check.same(46, told + " and undo", Check.stateOf(x), saved);
             }
         }
     }

@@ -51,13 +51,25 @@ final class Make {
         return x;
     }
 
-    static TwoTownAlmanac onDay(int day) {
-        return passTo(new TwoTownAlmanac(), day);
+    static TwoTownAlmanac withFeast(int town, int month, int dayOfMonth) {
+        TwoTownAlmanac x = new TwoTownAlmanac();
+        x.addFeast(town, month, dayOfMonth);
+        return x;
     }
 
+    /** 1.1. in town 0 and 21.11. in town 1 meet on day 3660 alone: 10 * 366 = 10 * 336 + 300. */
+    static TwoTownAlmanac meetingOn3660(int today) {
+        TwoTownAlmanac x = withFeast(0, 1, 1);
+        x.addFeast(1, 11, 21);
+        return passTo(x, today);
+    }
+
+    /** Lets days pass up to a day; the end does not hang on the answers of a class that may be wrong. */
     static TwoTownAlmanac passTo(TwoTownAlmanac x, int day) {
-        for (int today = x.today(); today < day; today = x.today()) {
-            x.passDays(Math.min(400, day - today));
+        int step;
+        for (int today = x.today(); today < day; today += step) {
+            step = Math.min(400, day - today);
+            x.passDays(step);
         }
         return x;
     }

@@ -9,16 +9,16 @@ public final class PassingEdgesTest {
     private static final int[] NO_DAYS = {0, 401, -1, Integer.MIN_VALUE, Integer.MAX_VALUE};
 
     public static void main(String[] args) {
-        promises23And24();
-        promises25And26();
-        promise27Parameter();
-        promise27LastDay();
-        promise27OrderOfThrows();
-        promise27QuarrelsOfTheFirstAndTheLastDay();
-        promise28();
-        promise29();
-        promise30();
-        promise31();
+        Check.run(23, PassingEdgesTest::promises23And24);
+        Check.run(25, PassingEdgesTest::promises25And26);
+        Check.run(27, PassingEdgesTest::promise27Parameter);
+        Check.run(27, PassingEdgesTest::promise27LastDay);
+        Check.run(27, PassingEdgesTest::promise27OrderOfThrows);
+        Check.run(27, PassingEdgesTest::promise27QuarrelsOfTheFirstAndTheLastDay);
+        Check.run(28, PassingEdgesTest::promise28);
+        Check.run(29, PassingEdgesTest::promise29);
+        Check.run(30, PassingEdgesTest::promise30);
+        Check.run(31, PassingEdgesTest::promise31);
         Check.covered(23, 31);
         Check.end("PassingEdgesTest");
     }
@@ -57,7 +57,8 @@ public final class PassingEdgesTest {
 
     private static void promise27Parameter() {
         // the busy almanac's feasts come again on days 328 and 329 for town 1, on 364 and 365 for town 0
-        new Edge(27, "passDays(?)", Make::busy, TwoTownAlmanac::passDays).least(1, 0).greatest(400, 0).outside(ARGUMENT);
+        new Edge(27, "passDays(?)", Make::busy, TwoTownAlmanac::passDays)
+                .least(1, 0).greatest(400, 0).outside(ARGUMENT);
         new Edge(27, "passDays(?) on day 1", () -> quarrelsOnDay1And400(1), TwoTownAlmanac::passDays)
                 .least(1, 1).greatest(400, 2).outside(ARGUMENT);
         for (int days : new int[] {1, 2, 399, 400}) {

@@ -61,10 +61,8 @@ public final class TermsTest {
                 x = real(gaps);
             }
             for (int town = 0; town < 2; town++) {
-                String of = "(" + town + ", " + day + ")";
-                Check.due(7, "dayOfMonth" + of, x.dayOfMonth(town, day), model.dayOfMonth(town, day));
-                Check.due(8, "monthOf" + of, x.monthOf(town, day), model.monthOf(town, day));
-                Check.due(9, "yearOf" + of, x.yearOf(town, day), model.yearOf(town, day));
+                Check.date(x, town, day, model.dayOfMonth(town, day), model.monthOf(town, day),
+                        model.yearOf(town, day));
             }
             Check.due(10, "weekday(" + day + ")", x.weekday(day), day % 7);
         }
@@ -164,7 +162,8 @@ public final class TermsTest {
             changes.passDays(1);
         }
         Check.due(27, "passDays(400) as the 512th call", changes.passDays(400), 0);
-        TwoTownAlmanac looks = Make.onDay(400);
+        TwoTownAlmanac looks = new TwoTownAlmanac();
+        looks.passDays(400);
         for (int call = 2; call < MOST_CALLS; call++) {
             looks.feastsOn(call);
         }

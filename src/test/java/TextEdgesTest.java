@@ -11,22 +11,22 @@ public final class TextEdgesTest {
     private static final int[] LENGTHS = {0, 1, 79, 80};
 
     public static void main(String[] args) {
-        promise36Codes();
-        promise36BitsAboveTheEnd();
-        promise36Numbers();
-        promise36Row();
-        promise36OrderOfThrows();
-        promises37And38();
-        promise39EachCharacter();
-        promise39Incomplete();
-        promise39LongTexts();
-        promise40();
-        promise41Errors();
-        promise41Numbers();
-        promise41LeftOutDates();
-        promise42Parameters();
-        promise42ReplacesTheText();
-        promise42Lengths();
+        Check.run(36, TextEdgesTest::promise36Codes);
+        Check.run(36, TextEdgesTest::promise36BitsAboveTheEnd);
+        Check.run(36, TextEdgesTest::promise36Numbers);
+        Check.run(36, TextEdgesTest::promise36Row);
+        Check.run(36, TextEdgesTest::promise36OrderOfThrows);
+        Check.run(37, TextEdgesTest::promises37And38);
+        Check.run(39, TextEdgesTest::promise39EachCharacter);
+        Check.run(39, TextEdgesTest::promise39Incomplete);
+        Check.run(39, TextEdgesTest::promise39LongTexts);
+        Check.run(40, TextEdgesTest::promise40);
+        Check.run(41, TextEdgesTest::promise41Errors);
+        Check.run(41, TextEdgesTest::promise41Numbers);
+        Check.run(41, TextEdgesTest::promise41LeftOutDates);
+        Check.run(42, TextEdgesTest::promise42Parameters);
+        Check.run(42, TextEdgesTest::promise42ReplacesTheText);
+        Check.run(42, TextEdgesTest::promise42Lengths);
         Check.covered(36, 42);
         Check.end("TextEdgesTest");
     }

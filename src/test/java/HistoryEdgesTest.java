@@ -68,7 +68,7 @@ public final class HistoryEdgesTest {
     private static void promise43EachChangeIsRecorded() {
         for (int recorded : new int[] {0, 1, 5, 6}) {
             for (int promise : CHANGES) {
-                eachChangeIsRecorded(promise, recorded);
+                Check.run(promise, () -> eachChangeIsRecorded(promise, recorded));
             }
         }
     }

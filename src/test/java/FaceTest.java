@@ -8,7 +8,8 @@ import java.util.TreeSet;
 
 /** The class's members are those of the document's face, and a new object is as promise 1 says. */
 public final class FaceTest {
-    private static final String[] FACE = {
+    /** The methods, in the order of their promises. */
+    static final String[] FACE = {
         "public int addGap(int,int,int) throws IOOBE,IAE,ISE",
         "public int gapCount(int) throws IOOBE",
         "public int gapDay(int,int) throws IOOBE",
